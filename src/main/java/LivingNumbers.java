@@ -20,6 +20,7 @@ public final class LivingNumbers {
     private static final int NEVER = 1_000_000;
 
     private final Sheets sheets = new Sheets();
+    private final RollText text = new RollText();
     private final People people = new People();
     private final Trace traced = new Trace();
     private final Fewest fewest = new Fewest();
@@ -38,7 +39,7 @@ public final class LivingNumbers {
         if (refused < 0) {
             return refused;
         }
-        RollText text = new RollText(sheets, sheet, i, n);
+        text.read(sheets, sheet, i, n);
         int place = text.firstFault();
         if (place >= 0) {
             return PLACE_BASE - place;
@@ -212,8 +213,7 @@ public final class LivingNumbers {
             return OUTSIDE;
         }
         people.teach(fewest, village, day, NO_ONE);
-        recall.gather(people, village, day);
-        int size = recall.search(fewest, quantity, w);
+        int size = recall.search(people, fewest, quantity, w);
         if (k == -1 || size == NONE) {
             return size;
         }
@@ -689,7 +689,7 @@ public final class LivingNumbers {
             return of(quantity) <= w;
         }
 
-        /** The same, by the first n of some more numbers, too: callers try too many of those to fill a table for each. */
+        /** The same, by the first n of some more numbers, too: too many are tried to fill a table for each. */
         boolean withinBy(int[] more, int n, int quantity, int w) {
             return isReached(this, more, Math.min(n, more.length), quantity, w);
         }
@@ -707,61 +707,45 @@ public final class LivingNumbers {
         }
     }
 
-    /** The search for those to call back: rows of absent ones, the shorter first, then in rising order. */
+    /** The search for those to call back: rows of people, the shorter first, then in rising order. */
     private static final class Recall {
         /** No more rows of one length can be made of ten people. */
         private static final int MOST_ROWS = 120;
 
-        private final int[] absent = new int[MOST_PEOPLE];
-        private final int[] numbers = new int[MOST_PEOPLE];
-        private int size = 0;
         private final int[] chosen = new int[MOST_CALLED];
-        private final int[] chosenNumbers = new int[MOST_CALLED];
+        private final int[] numbers = new int[MOST_CALLED];
 
-        void gather(People people, int village, int day) {
-            size = 0;
-            for (int x = 0; x < people.size(); x++) {
-                Named one = people.one(x);
-                if (one != null && !one.isHeard(village, day) && size < absent.length && size < numbers.length) {
-                    absent[size] = x;
-                    numbers[size] = one.number();
-                    size++;
-                }
-            }
-        }
-
-        /** Leaves the row that was found for calledAt(). */
-        int search(Fewest table, int quantity, int w) {
-            for (int length = 0; length <= MOST_CALLED && length <= size; length++) {
+        /**
+         * Leaves the row that was found for calledAt(). Those whose words live are tried, too: no shortest row has one
+         * of them, as it would do without.
+         */
+        int search(People people, Fewest table, int quantity, int w) {
+            for (int length = 0; length <= MOST_CALLED && length <= people.size(); length++) {
                 chooseFrom(0, 0, length);
                 boolean more = true;
                 for (int row = 0; row < MOST_ROWS && more; row++) {
-                    readNumbers(length);
-                    if (table.withinBy(chosenNumbers, length, quantity, w)) {
+                    readNumbers(people, length);
+                    if (table.withinBy(numbers, length, quantity, w)) {
                         return length;
                     }
-                    more = chooseNext(length);
+                    more = chooseNext(people.size(), length);
                 }
             }
             return NONE;
         }
 
         int calledAt(int k) {
-            return k >= 0 && k < chosen.length ? orNone(absent, chosen[k]) : NONE;
+            return k >= 0 && k < chosen.length ? chosen[k] : NONE;
         }
 
-        private static int orNone(int[] row, int i) {
-            return i >= 0 && i < row.length ? row[i] : NONE;
-        }
-
-        /** From a place of the row on, takes absent ones that stand side by side. */
+        /** From a place of the row on, takes people that stand side by side. */
         private void chooseFrom(int place, int first, int length) {
-            for (int at = Math.max(place, 0); at < length && at < chosen.length; at++) {
+            for (int at = place; at >= 0 && at < length && at < chosen.length; at++) {
                 chosen[at] = first + at - place;
             }
         }
 
-        private boolean chooseNext(int length) {
+        private boolean chooseNext(int size, int length) {
             for (int at = Math.min(length, chosen.length) - 1; at >= 0; at--) {
                 if (chosen[at] < size - length + at) {
                     chooseFrom(at, chosen[at] + 1, length);
@@ -771,9 +755,10 @@ public final class LivingNumbers {
             return false;
         }
 
-        private void readNumbers(int length) {
-            for (int at = 0; at < length && at < chosen.length && at < chosenNumbers.length; at++) {
-                chosenNumbers[at] = orNone(numbers, chosen[at]);
+        private void readNumbers(People people, int length) {
+            for (int at = 0; at < length && at < chosen.length && at < numbers.length; at++) {
+                Named one = people.one(chosen[at]);
+                numbers[at] = one == null ? 0 : one.number();
             }
         }
     }
@@ -784,6 +769,7 @@ public final class LivingNumbers {
 
         private final int[] cells = new int[SHEETS * MOST_CELLS];
         private final int[] lanes = new int[SHEETS];
+        /** Nothing has no cells, so what has a cell has a row. */
         private final int[] sizes = new int[SHEETS];
 
         Sheets() {
@@ -801,11 +787,7 @@ public final class LivingNumbers {
         }
 
         private int sizeOf(int k) {
-            return hasRow(k) && k < sizes.length ? sizes[k] : 0;
-        }
-
-        boolean hasCell(int k, int i) {
-            return i >= 0 && i < sizeOf(k);
+            return k >= 0 && k < sizes.length ? sizes[k] : 0;
         }
 
         boolean hasCells(int k, int i, int n) {
@@ -816,7 +798,11 @@ public final class LivingNumbers {
         /** Where a cell stands among all; -1, where there is none. */
         private int standOf(int k, int i) {
             int stand = k * MOST_CELLS + i;
-            return hasCell(k, i) && stand >= 0 && stand < cells.length ? stand : -1;
+            return i >= 0 && i < sizeOf(k) && stand >= 0 && stand < cells.length ? stand : -1;
+        }
+
+        boolean hasCell(int k, int i) {
+            return standOf(k, i) >= 0;
         }
 
         int at(int k, int i) {
@@ -839,13 +825,11 @@ public final class LivingNumbers {
         }
 
         void clear(int k) {
-            if (k >= 0 && k < lanes.length) {
-                lanes[k] = NOTHING;
-            }
+            renew(k, NOTHING, 0);
         }
 
         void renew(int k, int lane, int n) {
-            if (k < 0 || k >= lanes.length || k >= sizes.length || n < 0 || n > MOST_CELLS) {
+            if (k < 0 || k >= lanes.length || k >= sizes.length) {
                 return;
             }
             lanes[k] = lane;
@@ -866,16 +850,14 @@ public final class LivingNumbers {
     private static final class RollText {
         private static final int STEP = 9, NUMBER_AT = 2, FROM_AT = 4, TILL_AT = 6, MARK_AT = 8;
 
-        private final Sheets sheets;
-        private final int sheet;
-        private final int start;
-        private final int length;
+        private final int[] codes = new int[MOST_CELLS];
+        private int length = 0;
 
-        RollText(Sheets sheets, int sheet, int start, int length) {
-            this.sheets = sheets;
-            this.sheet = sheet;
-            this.start = start;
-            this.length = length;
+        void read(Sheets sheets, int sheet, int start, int n) {
+            length = Math.min(n, codes.length);
+            for (int place = 0; place < length && place < codes.length; place++) {
+                codes[place] = sheets.at(sheet, start + place);
+            }
         }
 
         /** -1, where there is none. */
@@ -901,11 +883,14 @@ public final class LivingNumbers {
             if (code(place) == 'f') {
                 return new Foreign(village, number, from, till);
             }
-            return code(place) == 'l' ? new Lent(village, number, from, till) : new Named(village, number, from, till);
+            if (code(place) == 'l') {
+                return new Lent(village, number, from, till);
+            }
+            return new Named(village, number, from, till);
         }
 
         private int code(int place) {
-            return sheets.at(sheet, start + place);
+            return place >= 0 && place < length && place < codes.length ? codes[place] : -1;
         }
 
         private int digit(int place) {

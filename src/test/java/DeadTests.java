@@ -101,7 +101,7 @@ public final class DeadTests {
         calls(x, 33, 5, 3, 0, 1, 5);
         calls(x, 9, 5, 2, 1);
         calls(x, 13, 5, 2, 0, 1);
-        LivingNumbers ten = Check.of("n1020099;n1030099;n1030099;n1030099;n1030099;n1030099;n1030099;n1500099;n1070099;n1600099");
+        LivingNumbers ten = Check.of("n1020099;" + Check.times("n1030099", 6) + ";n1500099;n1070099;n1600099");
         calls(ten, 117, 0, 3, 7, 8, 9);
         calls(ten, 110, 0, 2, 7, 9);
         calls(ten, 60, 0, 1, 9);

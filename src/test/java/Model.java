@@ -11,7 +11,6 @@ import java.util.regex.Pattern;
  * big integers, rows by search.
  */
 final class Model {
-    private static final int[] WORD_LIMITS = {1, 9};
     private static final Pattern TEXT = Pattern.compile("[nlf][01][0-9]{6}(;[nlf][01][0-9]{6}){0,9}");
 
     private final List<List<Integer>> rows = new ArrayList<>();
@@ -286,7 +285,7 @@ final class Model {
     }
 
     int child(int village, int day, int w, int sheet, int lane, int i, int n, int what) {
-        boolean inside = in(day, 0, 109) && in(w, WORD_LIMITS[0], WORD_LIMITS[1]) && in(what, 0, 1);
+        boolean inside = in(day, 0, 109) && in(w, 1, 9) && in(what, 0, 1);
         int refused = cellsRefused(village, sheet, inside, lane, i, n);
         if (refused != 0) {
             return refused;

@@ -175,7 +175,7 @@ public final class ModelTests {
         int size = k >= 0 && k < 4 ? sizes[k] : 1;
         int lane = k >= 0 && k < 4 && random.nextInt(15) != 0 ? lanes[k] : pick(0, 2);
         int i = pick(0, Math.min(3, size));
-        int n = pick(0, Math.max(0, size - i > 0 ? Math.min(size, size - i) : 0));
+        int n = pick(0, i >= 0 && i <= size ? size - i : 0);
         int what = pick(0, 2);
         int w = pick(1, 9);
         switch (kind) {

@@ -239,6 +239,7 @@ public final class RollTests {
         check.due("in the other village", x.sayable(1, 0, -1), 2);
         check.due("its least", x.sayable(1, 0, 0), 1);
         check.due("only the lent one", x.sayable(0, 55, -1), 1);
+        check.due("NUMBER 99", Check.of("n0990001").sayable(0, 0, 0), 99);
         check.due("none", x.sayable(0, 109, -1), 0);
         check.due("none to tell", x.sayable(0, 109, 0), -9);
         check.due("VILLAGE ahead of DAY", x.sayable(2, 110, 0), -1);

@@ -108,7 +108,8 @@ public final class SheetTests {
             x.sheet(lane, lane, 1);
             for (int v : values) {
                 x.put(lane, 0, v);
-                check.due("cut to lane " + lane, x.cell(lane, 0, lane), lane == 0 ? (byte) v : lane == 1 ? (short) v : v);
+                int cut = lane == 0 ? (byte) v : lane == 1 ? (short) v : v;
+                check.due("cut to lane " + lane, x.cell(lane, 0, lane), cut);
             }
         }
     }
@@ -150,6 +151,8 @@ public final class SheetTests {
             cells(x, 3, lane, 1, 2, 3, 4);
             check.due("all", x.copy(0, 0, 3, 0, 3), 3);
             cells(x, 3, lane, 9, 2, 3, 4);
+            check.due("one cell", x.copy(3, 3, 0, 2, 1), 1);
+            cells(x, 0, lane, 9, 2, 4);
             check.due("none at the ends", x.copy(0, 3, 3, 4, 0), 0);
             check.due("its fault", x.fault(), 0);
         }

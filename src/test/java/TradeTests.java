@@ -101,6 +101,8 @@ public final class TradeTests {
         check.due("n 12", x.child(0, 0, 9, 1, 2, 4, 12, 1), 11);
         check.due("a BARGAIN 1000", x.child(0, 0, 1, 1, 2, 0, 2, 0), -2);
         check.due("a BARGAIN -1", x.child(0, 0, 1, 1, 2, 2, 2, 0), -2);
+        check.due("the first BARGAIN 1000", x.child(0, 0, 1, 1, 2, 1, 2, 0), -2);
+        check.due("the first BARGAIN -1", x.child(0, 0, 1, 1, 2, 3, 2, 0), -2);
         check.due("a BARGAIN 999", x.child(0, 0, 1, 1, 2, 4, 1, 1), 0);
     }
 
