@@ -5,6 +5,7 @@ public final class RowTests {
     public static void main(String[] args) {
         means();
         meansOfTwenty();
+        onlyTheCellsOfTheRow();
         refusals();
         faults();
         say();
@@ -47,13 +48,31 @@ public final class RowTests {
         check.due("turned: the same", x.turned(0, 0, 0, 1, 0, 0, 21), -2);
     }
 
+    private static void onlyTheCellsOfTheRow() {
+        LivingNumbers x = people();
+        Check.fill(x, 1, 2, 5, 0, 0, -1);
+        both(x, 14, 0, 15, 1, 2, 1, 2, 2);
+        both(x, 0, 0, 15, 1, 2, 1, 0, 0);
+        LivingNumbers none = new LivingNumbers();
+        none.sheet(1, 2, 1);
+        both(none, 0, 0, 0, 1, 2, 0, 0, 0);
+        both(none, 0, 0, 0, 1, 2, 1, 0, 0);
+        both(none, -1, 0, 0, 1, 2, 0, 1, -1);
+    }
+
     private static void both(LivingNumbers x, int want, int village, int day, int sheet, int lane, int i, int n) {
+        both(x, want, village, day, sheet, lane, i, n, want);
+    }
+
+    /** The other DAY is one that there is, so that turned() is refused for what means() is refused for. */
+    private static void both(LivingNumbers x, int want, int village, int day, int sheet, int lane, int i, int n,
+            int turned) {
         String call = village + " " + day + " " + sheet + " " + lane + " " + i + " " + n;
         check.due("means " + call, x.means(village, day, sheet, lane, i, n), want);
         int fault = want <= -11 ? -10 - want : 0;
         check.due("its fault", x.fault(), fault);
         x.as(0, 1);
-        check.due("turned " + call, x.turned(village, day, 0, sheet, lane, i, n), want);
+        check.due("turned " + call, x.turned(village, day, Math.floorMod(day, 110), sheet, lane, i, n), turned);
         check.due("its fault", x.fault(), fault);
     }
 

@@ -7,6 +7,7 @@ public final class SheetTests {
         sheetRefusals();
         lose();
         put();
+        besideTheCells();
         cutToTheLane();
         cell();
         copy();
@@ -98,6 +99,25 @@ public final class SheetTests {
         check.due("fault", x.fault(), 0);
         check.due("the last", x.put(0, 2, 5), 1);
         cells(x, 0, 2, 4, 0, 5);
+    }
+
+    private static void besideTheCells() {
+        LivingNumbers x = new LivingNumbers();
+        for (int k = 0; k < 4; k++) {
+            x.sheet(k, 2, k == 2 ? 3 : 100);
+        }
+        for (int k = 0; k < 4; k++) {
+            int size = k == 2 ? 3 : 100;
+            for (int i : new int[] {-1, -100, -101, size, size + 1, size + 100, Check.LEAST, Check.MOST}) {
+                check.due("put " + k + " " + i, x.put(k, i, 7), Check.INDEX);
+                cell(x, k, i, 2, 3);
+                check.due("copy from " + k + " " + i, x.copy(k, i, k, 0, 1), Check.INDEX);
+                check.due("copy to " + k + " " + i, x.copy(k, 0, k, i, 1), Check.INDEX);
+            }
+        }
+        for (int k = 0; k < 4; k++) {
+            cells(x, k, 2, new int[k == 2 ? 3 : 100]);
+        }
     }
 
     private static void cutToTheLane() {

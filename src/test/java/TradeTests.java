@@ -104,6 +104,9 @@ public final class TradeTests {
         check.due("the first BARGAIN 1000", x.child(0, 0, 1, 1, 2, 1, 2, 0), -2);
         check.due("the first BARGAIN -1", x.child(0, 0, 1, 1, 2, 3, 2, 0), -2);
         check.due("a BARGAIN 999", x.child(0, 0, 1, 1, 2, 4, 1, 1), 0);
+        check.due("1000 behind the last BARGAIN", x.child(0, 0, 1, 1, 2, 0, 1, 1), 1);
+        check.due("1000 ahead of the first, -1 behind", x.child(0, 0, 1, 1, 2, 2, 1, 1), 1);
+        check.due("none, where -1 would be the next", x.child(0, 0, 1, 1, 2, 3, 0, 1), 0);
     }
 
     private static void both() {
@@ -202,5 +205,6 @@ public final class TradeTests {
         check.due("n 20", x.written(0, 1, 1, 0, 20, 0), 40);
         check.due("an unknown ONE", x.written(0, 1, 1, 1, 20, 0), -1);
         check.due("an unknown ONE below", x.written(0, 1, 1, 21, 1, 0), -1);
+        check.due("an unknown ONE ahead of the row and behind", x.written(0, 1, 1, 21, 0, 0), 110);
     }
 }
