@@ -26,7 +26,6 @@ public final class LivingNumbers {
     private final Fewest fewest = new Fewest();
     private final Fewest compared = new Fewest();
     private final Recall recall = new Recall();
-    private final int[] given = new int[1];
     private int latestFault = 0;
 
     public LivingNumbers() {
@@ -460,10 +459,9 @@ public final class LivingNumbers {
     }
 
     private int bargainsSaid(int number, int w, int sheet, int i, int n) {
-        given[0] = number;
         int said = 0;
         for (int place = 0; place < n; place++) {
-            if (fewest.withinBy(given, 1, sheets.at(sheet, i + place), w)) {
+            if (fewest.withinByOne(number, sheets.at(sheet, i + place), w)) {
                 said++;
             }
         }
@@ -689,7 +687,17 @@ public final class LivingNumbers {
             return of(quantity) <= w;
         }
 
-        /** The same, by the first n of some more numbers, too: too many are tried to fill a table for each. */
+        /** The same, by one more number, too: too many are tried to fill a table for each. */
+        boolean withinByOne(int number, int quantity, int w) {
+            for (int times = 0; times <= w; times++) {
+                if (within(quantity - times * number, w - times)) {
+                    return true;
+                }
+            }
+            return false;
+        }
+
+        /** The same, by the first n of some more numbers, too. */
         boolean withinBy(int[] more, int n, int quantity, int w) {
             return isReached(this, more, Math.min(n, more.length), quantity, w);
         }

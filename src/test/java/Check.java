@@ -24,6 +24,15 @@ final class Check {
         due(what, is ? 1 : 0, 1);
     }
 
+    void same(String what, Object got, Object want) {
+        if (got.equals(want)) {
+            passed++;
+            return;
+        }
+        failed++;
+        System.out.println(name + ": " + what + " is " + got + ", due is " + want);
+    }
+
     void close() {
         System.out.println(name + ": " + passed + " passed, " + failed + " failed");
         if (failed != 0) {

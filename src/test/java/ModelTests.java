@@ -2,7 +2,9 @@ import java.util.Random;
 
 /** Long random runs, in which the program and the model must give the same answers. */
 public final class ModelTests {
-    private static final int RUNS = 1200, CALLS = 400, MOST_TOLD = 20;
+    /** A run ends with the first step that comes past so many calls: one takes at most 104 of an object's 512. */
+    private static final int CALLS = 405;
+    private static final int RUNS = 5000, MOST_TOLD = 20;
     private static final int[] ODD = {-2, -1, 0, 1, 2, 3, 4, 5, 9, 10, 20, 21, 99, 100, 101, 109, 110, 999, 1000,
         Integer.MAX_VALUE, Integer.MAX_VALUE - 1, Integer.MIN_VALUE, Integer.MIN_VALUE + 1};
 
@@ -14,6 +16,7 @@ public final class ModelTests {
     /** What the latest sheet calls were likely to leave behind, so that later calls often fit. */
     private final int[] lanes = new int[4];
     private final int[] sizes = new int[4];
+    private int calls = 0;
 
     private ModelTests(Check check, long seed) {
         this.check = check;
@@ -31,13 +34,14 @@ public final class ModelTests {
 
     private void run() {
         newRoll();
-        for (int call = 0; call < CALLS; call++) {
+        for (int step = 0; step < CALLS && calls < CALLS; step++) {
             one();
             same("fault", x.fault(), m.fault());
         }
     }
 
     private void same(String call, long got, long want) {
+        calls++;
         check.due(call, got, want);
     }
 
