@@ -182,6 +182,13 @@ public final class EdgeRollTests {
         fault("n001988", 6);
         fault("n00199", 4);
         fault("n000", 2);
+        // No TEXT goes on with a 4 behind a FROM of 49: it is told, whatever follows or does not.
+        fault("n001484", 7);
+        fault("n001484x", 7);
+        fault("n001494", 6);
+        fault("n001494x", 6);
+        fault("n0014949", 6);
+        fault("n00149", 6);
     }
 
     /** "1 to 10 PEOPLE"; "the ; of an eleventh ONE". */

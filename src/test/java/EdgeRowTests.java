@@ -14,6 +14,7 @@ public final class EdgeRowTests {
         theLeastAndTheGreatestQuantity();
         fewestAheadOfGreatest();
         theGreaterNumberWhereUnlike();
+        onlyByNumbersThatCanBeSaid();
         daysOnWhichAQuantityIsSaid();
         turnedUpTo999();
         turnedFromDayToDay();
@@ -199,6 +200,19 @@ public final class EdgeRowTests {
         saying(last, 60, 20, 20, 20);
         saying(last, 52, 20, 20, 12);
         saying(last, 43, 20, 12, 11);
+    }
+
+    /** Of 19 and 1, and of 10 and 10: the 19 goes ahead while it LIVES, but not for the unborn, the dead, those away. */
+    private static void onlyByNumbersThatCanBeSaid() {
+        LivingNumbers x = Check.of("n0010099;n0100099;n0192030;n1190099;n0192030");
+        int[][] days = {{0, 10, 10}, {19, 10, 10}, {20, 19, 1}, {29, 19, 1}, {30, 10, 10}, {98, 10, 10}};
+        for (int[] on : days) {
+            check.due("promise 8: words for 20 on " + on[0], x.say(20, 0, on[0], -1), 2);
+            check.due("promise 8: the first on " + on[0], x.say(20, 0, on[0], 0), on[1]);
+            check.due("promise 8: the second on " + on[0], x.say(20, 0, on[0], 1), on[2]);
+            notSaid(x, 20, 1, on[0]);
+        }
+        notSaid(x, 20, 0, 99);
     }
 
     /** "NUMBERS that CAN BE SAID": on the first and on the last DAY, and not on those beside them. */
